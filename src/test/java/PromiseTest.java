@@ -23,6 +23,7 @@ public final class PromiseTest {
         ticks();
         zeros();
         corrections();
+        correctionsAtTheEdges();
         settings();
         accounts();
         bookings();
@@ -37,6 +38,7 @@ public final class PromiseTest {
         plansOfMass();
         errors();
         undoing();
+        restoredScale();
         historiesOfFour();
         typing();
         clearing();
@@ -117,6 +119,7 @@ public final class PromiseTest {
         due("a seventh lot", x.lot(1, 10), LIMIT);
         due("a seventh lot of no kind", x.lot(4, 10), INVALID);
         due("put so far", x.count(10), 10040);
+        due("in the hopper", x.count(9), 10040);
         due("the first lot", x.lotOf(0, 1), 1);
         due("behind it", x.lotOf(1, 1), 9999);
         x.run(1);
@@ -203,6 +206,11 @@ public final class PromiseTest {
         x.tick(1);
         due("the eighth bin", x.bin(), 7);
         due("the present one", x.count(4), 7);
+        BeltSums gram = running(1, 1);
+        due("a batch of one gram", gram.batch(1), 0);
+        gram.tick(13);
+        due("one gram", gram.binOf(0, 4), 1);
+        due("fills in one tick", gram.binOf(0, 6), 1);
         due("a ninth bin", x.bin(), LIMIT);
         x.batch(5);
         due("a ninth bin in a batch", x.bin(), IMPOSSIBLE);
@@ -212,6 +220,9 @@ public final class PromiseTest {
         y.tick(1);
         due("the first bin has the first feed", y.binOf(0, 4), 10);
         due("the second bin has the second one", y.binOf(1, 4), 10);
+        due("of its kind", y.binOf(1, 0), 10);
+        due("the first bin has no more", y.binOf(0, 0), 10);
+        due("all bins", y.count(11), 20);
     }
 
     private static void batches() {
@@ -381,6 +392,32 @@ public final class PromiseTest {
         due("a growth below 0", v.correct(0), IMPOSSIBLE);
     }
 
+    private static void correctionsAtTheEdges() {
+        promise = 9;
+        BeltSums x = running(501, 125);
+        x.set(0, 200);
+        x.tick(3);
+        x.gate(126);
+        x.tick(11);
+        due("the mass below", x.binOf(0, 4), 250);
+        due("the growth below", x.binOf(0, 5), MILLIARD + 501);
+        due("a factor of 499", x.correct(0), IMPOSSIBLE);
+        BeltSums y = running(1999, 200);
+        y.set(0, 200);
+        y.tick(5);
+        y.gate(0);
+        y.tick(7);
+        y.bin();
+        y.gate(200);
+        y.tick(30);
+        due("the mass above", y.binOf(1, 4), 1999);
+        due("the growth above", y.binOf(1, 5), MILLIARD + 999);
+        due("a factor of 2001", y.correct(1), IMPOSSIBLE);
+        BeltSums z = running(1, 1);
+        z.tick(40);
+        due("a growth of 1", z.correct(0), 1000);
+    }
+
     private static void settings() {
         promise = 10;
         int[] first = {120, 20, 1};
@@ -511,6 +548,7 @@ public final class PromiseTest {
         x.tick(1);
         due("the first one is gone", x.lotOf(0, 0), 1);
         due("what is left of the next one", x.lotOf(0, 1), 60);
+        due("what is left of all", x.count(9), 60);
     }
 
     private static void binsAsked() {
@@ -757,9 +795,7 @@ public final class PromiseTest {
             due(name + " is possible", answer > -1000000 ? 1 : 0, 1);
             due(name + " is a change", x.undo(), 3);
             int[] after = everything(x);
-            for (int i = 0; i < before.length; i++) {
-                due("undo of " + name + " restores row " + i, after[i], before[i]);
-            }
+            dueRows(name, after, before);
             change(x, name);
         }
         BeltSums y = new BeltSums();
@@ -829,6 +865,56 @@ public final class PromiseTest {
         all[row++] = x.batchOut();
         all[row] = x.error();
         return all;
+    }
+
+    private static void restoredScale() {
+        promise = 22;
+        BeltSums x = new BeltSums();
+        x.set(0, 2);
+        x.set(1, 1);
+        x.lot(3, 30);
+        x.gate(5);
+        x.run(1);
+        x.tick(1);
+        int[] before = everything(x);
+        x.tick(15);
+        int[] later = everything(x);
+        due("zero() is possible", x.zero(), MILLION);
+        due("zero() is undone", x.undo(), 3);
+        dueRows("zero()", everything(x), later);
+        due("tick() is undone", x.undo(), 2);
+        dueRows("tick()", everything(x), before);
+        x.tick(15);
+        dueRows("tick() again", everything(x), later);
+        write(x, "t7;x;t5;z;");
+        due("play() is possible", x.play(), 4);
+        x.undo();
+        dueRows("play()", everything(x), later);
+        BeltSums y = new BeltSums();
+        y.gate(7);
+        y.set(0, 9);
+        y.undo();
+        due("set() keeps the gate that was", y.count(1), 7);
+        y.account(0);
+        y.book(2, 1);
+        y.undo();
+        due("book() keeps the account that was", y.count(13), 2);
+        y.run(1);
+        y.zero();
+        y.undo();
+        due("zero() keeps the switch that was", y.count(2), 1);
+        BeltSums z = running(100, 100);
+        z.tick(20);
+        z.gate(3);
+        z.correct(0);
+        z.undo();
+        due("correct() keeps the gate that was", z.count(1), 3);
+    }
+
+    private static void dueRows(String what, int[] got, int[] want) {
+        for (int i = 0; i < want.length; i++) {
+            due("undo of " + what + " in row " + i, got[i], want[i]);
+        }
     }
 
     private static void historiesOfFour() {
@@ -919,7 +1005,7 @@ public final class PromiseTest {
         due("an empty text", x.fault(1), NONE);
         String[] wrong = {"b", ";", "q;", "B;", " b;", "b ;", "b1;", "s0;", "x,;", "z5;", "g;", "g", "g5", "g5,", "g5,5;", "g-1;",
             "g00005;", "g12345;", "gg;", "l;", "l1;", "l1", "l1,", "l1,;", "l,5;", "l1;5;", "l1,5", "l1,5,", "l1,5,6;",
-            "l00001,5;", "l1,00005;", "l1 ,5;", "m;", "m-5;", "c;", "c0", "t;", "t1", "t1;;", "t+1;", "bb;", "t:;", "t/;"};
+            "l00001,5;", "l1,00005;", "l1 ,5;", "m;", "m-5;", "c;", "c0", "t;", "t1", "t1;;", "t+1;", "bb;", "t:;", "t/;", "t1/;", "t1:;"};
         for (String text : wrong) {
             fault(text, text.equals("t1;;") ? 3 : 0, 1, NONE);
             fault("g0;t1;" + text, text.equals("t1;;") ? 9 : 6, 1, NONE);

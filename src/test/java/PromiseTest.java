@@ -206,14 +206,14 @@ public final class PromiseTest {
         x.tick(1);
         due("the eighth bin", x.bin(), 7);
         due("the present one", x.count(4), 7);
+        due("a ninth bin", x.bin(), LIMIT);
+        x.batch(5);
+        due("a ninth bin in a batch", x.bin(), IMPOSSIBLE);
         BeltSums gram = running(1, 1);
         due("a batch of one gram", gram.batch(1), 0);
         gram.tick(13);
         due("one gram", gram.binOf(0, 4), 1);
         due("fills in one tick", gram.binOf(0, 6), 1);
-        due("a ninth bin", x.bin(), LIMIT);
-        x.batch(5);
-        due("a ninth bin in a batch", x.bin(), IMPOSSIBLE);
         BeltSums y = running(20, 10);
         y.tick(13);
         y.bin();

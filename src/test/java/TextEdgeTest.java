@@ -77,7 +77,7 @@ public final class TextEdgeTest {
         possible("", 0);
         possible("b;", 1);
         possible("b;x;", 2);
-        notOfTheForm("b", ";", "b;;".substring(1), "bx;", "b,", "b:", "b ;", " b;", "z");
+        notOfTheForm("b", ";", ";;", "bx;", "b,", "b:", "b ;", " b;", "z");
         faulty("b;;", 2, NONE);
         faulty("b;x", 2, NONE);
         faulty("b; x;", 2, NONE);
@@ -190,7 +190,7 @@ public final class TextEdgeTest {
     }
 
     static void otherLetters() {
-        Edges.says("Texts", "(switched off), \"m\" a mass");
+        Edges.says("Texts", "commands, each followed by \";\"");
         for (int letter = 32; letter < 127; letter++) {
             if ("bsxz".indexOf(letter) < 0) {
                 faulty((char) letter + ";", 0, NONE);

@@ -43,8 +43,9 @@ public final class ReadmeTest {
 
     private static String blockOf(String readme, String language) {
         Matcher block = Pattern.compile("(?s)```" + language + "\n(.*?)```\n").matcher(readme);
-        due("a block of " + language, block.find(), true);
-        return block.group(1);
+        boolean found = block.find();
+        due("a block of " + language, found, true);
+        return found ? block.group(1) : "";
     }
 
     private static void checkProgram(String program, String told) throws Exception {
@@ -84,7 +85,9 @@ public final class ReadmeTest {
     /** Each call stands in the table with as many arguments as it takes. */
     private static void checkCalls(String readme) {
         Set<String> told = new TreeSet<>();
-        String table = readme.substring(readme.indexOf("### The calls"), readme.indexOf("Mass is in grams"));
+        int start = readme.indexOf("### The calls");
+        int end = readme.indexOf("Mass is in grams", start);
+        String table = start >= 0 && end >= 0 ? readme.substring(start, end) : "";
         Matcher call = Pattern.compile("`(\\w+)\\(([^)]*)\\)`").matcher(table);
         while (call.find()) {
             told.add(call.group(1) + " of " + numbers(call.group(2)).length);
